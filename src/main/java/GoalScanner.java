@@ -420,7 +420,8 @@ public final class GoalScanner {
     private void solveSet(Node node, int at) {
         int first = rows.size;
         solve(node.b, at);
-        for (int row = first; row < rows.size; row++) {
+        int end = rows.size;
+        for (int row = first; row < end; row++) {
             rows.putVariable(row, node.a, rows.intAt(row));
         }
     }
@@ -456,11 +457,12 @@ public final class GoalScanner {
     private void solveMost(Node node, int at) {
         int first = rows.size;
         solve(node.a, at);
-        if (rows.size == first) {
+        int end = rows.size;
+        if (end == first) {
             return;
         }
         int greatest = first;
-        for (int row = first + 1; row < rows.size; row++) {
+        for (int row = first + 1; row < end; row++) {
             if (rows.intAt(row) > rows.intAt(greatest)) {
                 greatest = row;
             }

@@ -19,7 +19,8 @@ final class FaceTest {
         check.due("modifiers", Modifier.toString(face.getModifiers()), "public final");
         check.due("constructors", Arrays.toString(face.getDeclaredConstructors()), "[public GoalScanner()]");
         check.due("methods", openMethods(face).toString(), new TreeSet<>(Arrays.asList(METHODS)).toString());
-        check.due("fields", openFields(face).toString(), "[public static final int REFUSED, public static final long NONE]");
+        check.due("fields", openFields(face).toString(),
+            "[public static final int REFUSED, public static final long NONE]");
         check.due("REFUSED", GoalScanner.REFUSED, -1);
         check.due("NONE", GoalScanner.NONE, 1000000000000L);
         privateNames(check, face);

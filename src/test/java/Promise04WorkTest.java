@@ -55,7 +55,7 @@ final class Promise04WorkTest {
         check.due(what + " has at least the WORK " + work, fitsBeside(recipe, 29 - work), false);
     }
 
-    /** MOST of the node, then more, 64 times: WORK 74 + 64 * (1 + (1 + its own) + more), at most 2000 up to 28 in all. */
+    /** MOST of the node, then more, 64 times: WORK 74 + 64 * (2 + its own + more), at most 2000 up to 28. */
     private static boolean fitsBeside(Recipe recipe, int more) {
         Build build = new Build("");
         int both = build.then(build.most(recipe.make(build)), build.ofWork(more));

@@ -18,7 +18,8 @@ final class Promise06ChoiceKindsTest {
         Build build = new Build("");
         check.due("SET each", build.evaluated(build.set(1, build.series(4, 6))), "4@0/1=4 5@0/1=5 6@0/1=6");
         check.due("SET nothing", build.evaluated(build.set(1, build.nothing())), "");
-        int twice = build.then(build.set(2, build.number(5)), build.set(2, build.add(build.variable(2), build.number(1))));
+        int more = build.set(2, build.add(build.variable(2), build.number(1)));
+        int twice = build.then(build.set(2, build.number(5)), more);
         check.due("SET again", build.evaluated(twice), "6@0/2=6");
         int inner = build.set(0, build.set(1, build.number(-3)));
         check.due("SET of SET", build.evaluated(inner), "-3@0/0=-3/1=-3");
@@ -76,14 +77,15 @@ final class Promise06ChoiceKindsTest {
     private static void most(Check check) {
         Build build = new Build("abc");
         check.due("MOST of rising ones", build.evaluated(build.most(build.series(4, 6))), "6@0");
-        check.due("MOST of falling ones", build.evaluated(build.most(build.sub(build.number(0), build.series(4, 6)))), "-4@0");
+        int falling = build.sub(build.number(0), build.series(4, 6));
+        check.due("MOST of falling ones", build.evaluated(build.most(falling)), "-4@0");
         check.due("MOST of nothing", build.evaluated(build.most(build.nothing())), "");
         check.due("MOST of far ones",
             build.evaluated(build.most(build.either(Integer.MIN_VALUE, Integer.MAX_VALUE))), Integer.MAX_VALUE + "@0");
         check.due("MOST of the least",
             build.evaluated(build.most(build.number(Integer.MIN_VALUE))), Integer.MIN_VALUE + "@0");
-        int equal = build.most(build.or(build.number(1), build.or(build.set(0, build.number(9)), build.set(1, build.number(9)))));
-        check.due("MOST of equal ones", build.evaluated(equal), "9@0/0=9");
+        int equal = build.or(build.set(0, build.number(9)), build.set(1, build.number(9)));
+        check.due("MOST of equal ones", build.evaluated(build.most(build.or(build.number(1), equal))), "9@0/0=9");
         int each = build.then(build.go(build.series(0, 2)), build.most(build.or(build.place(), build.one(Build.ALL))));
         check.due("MOST in each STATE", build.evaluated(each), "97@1 98@2 99@3");
     }

@@ -8,6 +8,7 @@ final class Promise06EvaluateTest {
         refused(check);
         mostResults(check);
         deepest(check);
+        manyRowsAtOnce(check);
         check.end();
     }
 
@@ -82,5 +83,18 @@ final class Promise06EvaluateTest {
         for (int k = 0; k < 64; k++) {
             check.due("result(" + k + ")", build.x.result(k), k);
         }
+    }
+
+    /** While the innermost node works for the last time, some 200 RESULTS of those around it wait: none may be lost. */
+    private static void manyRowsAtOnce(Check check) {
+        Build build = new Build("aaaaaaaaaaaaaaaaaaaaaaaa");
+        int inner = build.first(8, build.add(build.sixtyFour(), build.number(100)));
+        int outer = build.most(build.add(build.seek(Build.ALL), inner));
+        int before = build.add(build.seek(Build.ALL), build.first(7, build.seek(Build.ALL)));
+        check.due("evaluate", build.x.evaluate(build.or(before, outer)), 57);
+        for (int k = 0; k < 56; k++) {
+            check.due("result(" + k + ")", build.x.result(k), k / 7 + k % 7);
+        }
+        check.due("result(56)", build.x.result(56), 7 + 7 + 100);
     }
 }

@@ -38,11 +38,11 @@ final class Promise06PairKindsTest {
         check.due("LESS", build.evaluated(build.less(build.either(1, 3), build.series(0, 4))), "2@0 3@0 4@0 4@0");
         check.due("LESS of equals", build.evaluated(build.less(build.number(2), build.number(2))), "");
         check.due("LESS far apart", build.evaluated(build.less(build.number(MIN), build.number(MAX))), MAX + "@0");
-        check.due("LESS, far apart the other way", build.evaluated(build.less(build.number(MAX), build.number(MIN))), "");
+        check.due("LESS the other way", build.evaluated(build.less(build.number(MAX), build.number(MIN))), "");
         check.due("SAME", build.evaluated(build.same(build.either(1, 3), build.series(0, 4))), "1@0 3@0");
         check.due("SAME of others", build.evaluated(build.same(build.number(1), build.number(2))), "");
         check.due("SAME far out", build.evaluated(build.same(build.number(MIN), build.number(MIN))), MIN + "@0");
-        check.due("SAME of greater numbers", build.evaluated(build.same(build.number(1000), build.number(1000))), "1000@0");
+        check.due("SAME of thousands", build.evaluated(build.same(build.number(1000), build.number(1000))), "1000@0");
     }
 
     private static void statesOfPairs(Check check) {

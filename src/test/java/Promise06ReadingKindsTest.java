@@ -9,6 +9,7 @@ final class Promise06ReadingKindsTest {
         value(check);
         seek(check);
         go(check);
+        unnamedOperands(check);
         check.end();
     }
 
@@ -61,6 +62,7 @@ final class Promise06ReadingKindsTest {
         Build build = new Build("ab1 cd");
         check.due("RUN", build.evaluated(build.run(Build.LETTERS)), "2@2");
         check.due("RUN of a wider SORT", build.evaluated(build.run(Build.LETTERS_OR_DIGITS)), "3@3");
+        check.due("RUN of digits", build.evaluated(behind(build, 2, build.run(Build.DIGITS))), "1@3");
         check.due("RUN of another SORT", build.evaluated(build.run(Build.BLANKS)), "");
         check.due("RUN up to the end", build.evaluated(behind(build, 4, build.run(Build.LETTERS))), "2@6");
         check.due("RUN at the end", build.evaluated(behind(build, 6, build.run(Build.ALL))), "");
@@ -107,5 +109,15 @@ final class Promise06ReadingKindsTest {
         int some = build.go(build.set(1, build.series(-2, 5)));
         check.due("GO to some", build.evaluated(some), "0@0 1@1/1=1 2@2/1=2 3@3/1=3");
         check.due("GO back", build.evaluated(build.then(build.run(Build.ALL), build.go(build.number(1)))), "1@1");
+    }
+
+    /** Operands that a kind does not name mean nothing, even where another kind could read them. */
+    private static void unnamedOperands(Check check) {
+        String[] due = {"4@0", "0@0", "0@0", "2@0", "49@1", "2@2", "12@2"};
+        for (int kind = 0; kind <= 6; kind++) {
+            Build build = new Build("12");
+            int a = kind == 1 ? 3 : Build.ALL;
+            check.due("kind " + kind, build.evaluated(build.x.node(kind, a, Build.ALL, Build.ALL)), due[kind]);
+        }
     }
 }
