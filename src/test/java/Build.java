@@ -7,9 +7,14 @@ final class Build {
     static final int ALL = 4;
     private static final int ODD = Integer.MIN_VALUE + 7;
 
-    final GoalScanner x = new GoalScanner();
+    final GoalScanner x;
 
     Build(String text) {
+        this(new GoalScanner(), text);
+    }
+
+    Build(GoalScanner x, String text) {
+        this.x = x;
         type(text);
     }
 
@@ -136,7 +141,52 @@ final class Build {
         return add(seek(ALL), seek(ALL));
     }
 
-    /** A node with BOUND 1 and just that WORK. */
+    /** A node with BOUND 64 that gives 0, 1, .. 63 in any text; it takes 9 nodes and has LEVEL 4. */
+    int upTo63() {
+        return add(mul(series(0, 7), number(8)), series(0, 7));
+    }
+
+    /** A node in the STATE with that place. */
+    int at(int place, int node) {
+        return then(go(number(place)), node);
+    }
+
+    /** A node with just that BOUND, up to 64. */
+    int ofBound(int bound) {
+        if (bound == 1) {
+            return number(0);
+        }
+        if (bound <= 8) {
+            return first(bound, seek(ALL));
+        }
+        if (bound % 8 == 0) {
+            return add(seek(ALL), ofBound(bound / 8));
+        }
+        return or(ofBound(bound - bound % 8), ofBound(bound % 8));
+    }
+
+    /** A node with just that LEVEL. */
+    int ofLevel(int level) {
+        int deep = number(0);
+        for (int above = 2; above <= level; above++) {
+            deep = most(deep);
+        }
+        return deep;
+    }
+
+    /** A node with BOUND 1 and just that WORK, 1997 .. 2000, and LEVEL 7; it takes some 40 nodes. */
+    int heavy(int work) {
+        int most = most(then(sixtyFour(), ofWork(30)));
+        return then(most, ofWork(work - 1996));
+    }
+
+    /** A node with BOUND 1 and just that WORK, 244 .. 250, and LEVEL 7; it takes some 40 nodes. */
+    int halfHeavy(int work) {
+        int most = most(then(seek(ALL), ofWork(29)));
+        return then(ofWork(work - 243), most);
+    }
+
+    /** A node with BOUND 1 and just that WORK; flat, so that others can stand above it: up to 40, LEVEL 4. */
     int ofWork(int work) {
         if (work == 1) {
             return number(0);
@@ -144,8 +194,12 @@ final class Build {
         if (work == 2) {
             return not(number(0));
         }
-        int half = (work - 1) / 2;
-        return add(ofWork(half), ofWork(work - 1 - half));
+        if (work == 3) {
+            return add(number(0), number(0));
+        }
+        int a = (work - 1) / 3;
+        int b = (work - 1 - a) / 2;
+        return iff(ofWork(a), ofWork(b), ofWork(work - 1 - a - b));
     }
 
     String evaluated(int node) {

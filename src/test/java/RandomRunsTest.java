@@ -4,8 +4,9 @@ import java.util.Random;
 
 /** All promises: many runs of 512 calls, the same each time, in which the class must answer as the Model does. */
 final class RandomRunsTest {
-    private static final int RUNS = 3000;
+    private static final int RUNS = 12000;
     private static final int CALLS = 512;
+    private static final int RESULTS_LOOKED_AT = 6;
     private static final int[] ODD_INTS = {-1, 5, 60, 255, 512, Integer.MIN_VALUE, Integer.MAX_VALUE};
     private static final String CHARACTERS = "0123456789abcz \t+A";
 
@@ -14,6 +15,7 @@ final class RandomRunsTest {
     private final Model model = new Model();
     private final Check check;
     private final String name;
+    private int calls;
 
     private RandomRunsTest(int run, Check check) {
         random = new Random(run);
@@ -30,21 +32,29 @@ final class RandomRunsTest {
     }
 
     private void play() {
-        for (int call = 0; call < CALLS; call++) {
+        while (calls < CALLS) {
             int choice = random.nextInt(100);
             if (choice < 8) {
                 type();
-            } else if (choice < 60) {
+            } else if (choice < 72) {
                 node();
-            } else if (choice < 80) {
+            } else if (choice < 90) {
                 solve();
             } else if (choice < 98) {
                 look();
             } else if (random.nextInt(3) == 0) {
-                check.due(name + "wipe()", x.wipe(), model.wipe());
+                due("wipe()", x.wipe(), model.wipe());
             } else if (model.count(0) > 40) {
-                check.due(name + "clear()", x.clear(), model.clear());
+                due("clear()", x.clear(), model.clear());
             }
+        }
+    }
+
+    /** What calls beyond the limit answer is free: they are made, but not looked at. */
+    private void due(String call, long got, long want) {
+        calls++;
+        if (calls <= CALLS) {
+            check.due(name + "call " + calls + ", " + call, got, want);
         }
     }
 
@@ -55,7 +65,7 @@ final class RandomRunsTest {
     private void type() {
         int c = random.nextInt(10) == 0 ? random.nextInt(260) - 2
             : CHARACTERS.charAt(random.nextInt(CHARACTERS.length()));
-        check.due(name + "type(" + c + ")", x.type(c), model.type(c));
+        due("type(" + c + ")", x.type(c), model.type(c));
     }
 
     private void node() {
@@ -72,8 +82,8 @@ final class RandomRunsTest {
         }
         int b = operand();
         int c = operand();
-        String call = name + "node(" + kind + ", " + a + ", " + b + ", " + c + ")";
-        check.due(call, x.node(kind, a, b, c), model.node(kind, a, b, c));
+        String call = "node(" + kind + ", " + a + ", " + b + ", " + c + ")";
+        due(call, x.node(kind, a, b, c), model.node(kind, a, b, c));
     }
 
     /** Leaves while few nodes are free, so that there are always operands. */
@@ -109,34 +119,37 @@ final class RandomRunsTest {
     private void solve() {
         int node = random.nextInt(30) == 0 ? odd() : random.nextInt(Math.max(1, model.count(0)));
         if (random.nextInt(4) == 0) {
-            check.due(name + "attempt(" + node + ")", x.attempt(node), model.attempt(node));
+            due("attempt(" + node + ")", x.attempt(node), model.attempt(node));
         } else {
-            check.due(name + "evaluate(" + node + ")", x.evaluate(node), model.evaluate(node));
+            due("evaluate(" + node + ")", x.evaluate(node), model.evaluate(node));
         }
-        allResults();
+        someResults();
     }
 
-    private void allResults() {
-        for (int k = 0; k <= model.count(2); k++) {
-            check.due(name + "result(" + k + ")", x.result(k), model.result(k));
-            check.due(name + "place(" + k + ")", x.place(k), model.place(k));
-            for (int v = 0; v < 4; v++) {
-                check.due(name + "variable(" + k + ", " + v + ")", x.variable(k, v), model.variable(k, v));
-            }
+    /** Some of the RESULTS and the one behind the last, so that a run has calls left for other things. */
+    private void someResults() {
+        int count = model.count(2);
+        int looks = Math.min(count, RESULTS_LOOKED_AT);
+        for (int i = 0; i <= looks; i++) {
+            int k = i == looks ? count : count <= RESULTS_LOOKED_AT ? i : random.nextInt(count);
+            int v = random.nextInt(4);
+            due("result(" + k + ")", x.result(k), model.result(k));
+            due("place(" + k + ")", x.place(k), model.place(k));
+            due("variable(" + k + ", " + v + ")", x.variable(k, v), model.variable(k, v));
         }
-        check.due(name + "count(3)", x.count(3), model.count(3));
+        due("count(3)", x.count(3), model.count(3));
     }
 
     private void look() {
         int i = random.nextInt(10) == 0 ? odd() : random.nextInt(64);
-        check.due(name + "bound(" + i + ")", x.bound(i), model.bound(i));
-        check.due(name + "level(" + i + ")", x.level(i), model.level(i));
-        check.due(name + "used(" + i + ")", x.used(i), model.used(i));
+        due("bound(" + i + ")", x.bound(i), model.bound(i));
+        due("level(" + i + ")", x.level(i), model.level(i));
+        due("used(" + i + ")", x.used(i) ? 1 : 0, model.used(i) ? 1 : 0);
         int what = random.nextInt(6) - 1;
-        check.due(name + "count(" + what + ")", x.count(what), model.count(what));
+        due("count(" + what + ")", x.count(what), model.count(what));
         int v = random.nextInt(6) - 1;
-        check.due(name + "variable(" + i + ", " + v + ")", x.variable(i, v), model.variable(i, v));
-        check.due(name + "result(" + i + ")", x.result(i), model.result(i));
-        check.due(name + "place(" + i + ")", x.place(i), model.place(i));
+        due("variable(" + i + ", " + v + ")", x.variable(i, v), model.variable(i, v));
+        due("result(" + i + ")", x.result(i), model.result(i));
+        due("place(" + i + ")", x.place(i), model.place(i));
     }
 }
