@@ -653,8 +653,11 @@ public final class GoalScanner {
 
         /** A new row on top, with the STATE of the row from but another place. */
         void pushAtPlace(int value, int newPlace, int from) {
+            int row = size;
             push(value, from);
-            cells[(size - 1) * WIDTH + PLACE_CELL] = newPlace;
+            if (row < size) {
+                cells[row * WIDTH + PLACE_CELL] = newPlace;
+            }
         }
 
         void copy(int from, int to) {

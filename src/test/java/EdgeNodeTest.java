@@ -66,21 +66,25 @@ final class EdgeNodeTest {
         check.refused("evaluate(60)", x.evaluate(60));
     }
 
+    /** How many nodes a kind from 8 on names. */
+    private static int operands(int kind) {
+        if (kind == 19) {
+            return 3;
+        }
+        return kind >= 9 && kind <= 16 ? 2 : 1;
+    }
+
     private static void usedOnce(Check check) {
         for (int user = 8; user <= 21; user++) {
             for (int next = 8; next <= 21; next++) {
                 GoalScanner x = numbersUpTo(6);
                 check.due("the first user, of kind " + user, over(x, user, 0), 6);
-                int operand = user == 17 || user == 18 ? 0 : used(x);
-                check.refused("a second user, of kind " + next, over(x, next, operand));
+                for (int operand = 0; operand < operands(user); operand++) {
+                    check.refused("a second user of " + operand + ", of kind " + next, over(x, next, operand));
+                }
                 check.due("a user of others, of kind " + next, over(x, next, 3), 7);
             }
         }
-    }
-
-    /** The last of the nodes 0 .. 2 that is used. */
-    private static int used(GoalScanner x) {
-        return x.used(2) ? 2 : x.used(1) ? 1 : 0;
     }
 
     private static void madeLater(Check check) {
@@ -194,10 +198,12 @@ final class EdgeNodeTest {
         for (int kind = 8; kind <= 21; kind++) {
             GoalScanner x = numbersUpTo(6);
             check.due("the user, of kind " + kind, over(x, kind, 3), 6);
-            for (int operand = 3; operand <= 5; operand++) {
-                if (x.used(operand)) {
-                    wrongOperand(check, x, operand, "used");
-                }
+            for (int operand = 3; operand < 3 + operands(kind); operand++) {
+                check.due("used(" + operand + ")", x.used(operand), true);
+                wrongOperand(check, x, operand, "used");
+            }
+            for (int operand = 3 + operands(kind); operand < 6; operand++) {
+                check.due("used(" + operand + ")", x.used(operand), false);
             }
             check.due("IF of the others", x.node(19, 0, 1, 2), 7);
         }
@@ -251,6 +257,23 @@ final class EdgeNodeTest {
             for (int kind = 9; kind <= 16; kind++) {
                 GoalScanner x = numbersUpTo(2);
                 check.due("kind " + kind + " with " + any, x.node(kind, 0, 1, any), 2);
+            }
+        }
+        usedOnesUnnamed(check);
+    }
+
+    /** Where no operand is named, even a node that is used already, or the named one once more, is just an int. */
+    private static void usedOnesUnnamed(Check check) {
+        for (int kind = 0; kind <= 21; kind++) {
+            for (int unnamed : new int[] {0, 2}) {
+                GoalScanner x = numbersUpTo(4);
+                x.node(20, 0, 0, 0);
+                boolean second = kind == 17 || kind == 18;
+                int b = kind >= 9 && kind <= 19 && !second ? 3 : unnamed;
+                int made = second ? x.node(kind, 2, 2, unnamed) : x.node(kind, 2, b, kind == 19 ? 1 : unnamed);
+                check.due("kind " + kind + " with " + unnamed + " unnamed", made, 5);
+                check.due("used(2)", x.used(2), kind >= 8);
+                check.due("used(3)", x.used(3), kind >= 9 && kind <= 19 && !second);
             }
         }
     }
