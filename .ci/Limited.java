@@ -3,6 +3,7 @@ import java.lang.reflect.Method;
 /** Runs the main method of a test, and fails it if it does not end in time: a call that never ends is a fault too. */
 public final class Limited {
     private static final long MILLISECONDS = 180_000;
+    private static final int DOES_NOT_END = 3;
 
     public static void main(String[] args) throws ReflectiveOperationException {
         Thread watch = new Thread(() -> endInTime(args[0]));
@@ -20,6 +21,6 @@ public final class Limited {
             return;
         }
         System.out.println(test + " does not end");
-        Runtime.getRuntime().halt(1);
+        Runtime.getRuntime().halt(DOES_NOT_END);
     }
 }

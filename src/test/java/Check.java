@@ -26,7 +26,8 @@ final class Check {
         if (!got.equals(want)) {
             wrong++;
             if (wrong <= MOST_TOLD) {
-                System.out.println(call + " answered " + got + ", due is " + want);
+                // A text may hold any character, and what is told should stay readable.
+                System.out.println((call + " answered " + got + ", due is " + want).replaceAll("[^ -~]", "?"));
             }
         }
     }

@@ -10,7 +10,7 @@ final class EdgeAnswersTest {
         check.sentence("A new object: no RESULTS", EdgeAnswersTest::newResults);
         check.sentence("The int of RESULT k, from 0; NONE if there is no such", EdgeAnswersTest::result);
         check.sentence("The place in the STATE of RESULT k; REFUSED if there is no such", EdgeAnswersTest::place);
-        check.sentence("Variable v 0 .. 3 in the STATE of RESULT k; NONE if there is no such", EdgeAnswersTest::variable);
+        check.sentence("Variable v 0 .. 3 of RESULT k; NONE if there is no such", EdgeAnswersTest::variable);
         check.sentence("THE BOUND of a node; REFUSED if there is no such", EdgeAnswersTest::bound);
         check.sentence("The LEVEL of a node; REFUSED if there is no such", EdgeAnswersTest::level);
         check.sentence("Whether another node uses it; false if there is no such", EdgeAnswersTest::used);
@@ -60,7 +60,7 @@ final class EdgeAnswersTest {
         }
     }
 
-    /** An object with as many RESULTS, up to 64: k has the int k, the variable 0 k + 64 - count, and the variable 1 k. */
+    /** An object with as many RESULTS, up to 64: k has the int k, and the variables k + 64 - count and k. */
     private static GoalScanner withResults(int count) {
         Build build = new Build("a".repeat(24));
         int values = build.set(0, build.less(build.number(63 - count), build.upTo63()));

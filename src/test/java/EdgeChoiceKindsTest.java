@@ -53,7 +53,7 @@ final class EdgeChoiceKindsTest {
                 Build build = new Build("");
                 int node = build.first(a, build.series(1, there));
                 check.due("FIRST " + a + " of " + there, build.x.evaluate(node), there);
-                check.due("result(" + (there - 1) + ")", build.x.result(there - 1), there == 0 ? GoalScanner.NONE : there);
+                check.due("the last of them", build.x.result(there - 1), there == 0 ? GoalScanner.NONE : there);
             }
         }
         Build build = new Build("");

@@ -7,12 +7,12 @@ final class EdgeEvaluateTest {
         Check check = new Check();
         check.sentence("EVALUATES a node (used by another or not)", EdgeEvaluateTest::usedOrNot);
         check.sentence("evaluate: in the present text", EdgeEvaluateTest::presentText);
-        check.sentence("its RESULTS are kept in place of those before: how many", EdgeEvaluateTest::inPlaceOfThoseBefore);
+        check.sentence("its RESULTS are kept in place of those before: how many", EdgeEvaluateTest::evaluates);
         check.sentence("evaluate: No such node: REFUSED", EdgeEvaluateTest::noSuchNode);
         check.sentence("attempt: as far as its first RESULT alone", EdgeEvaluateTest::firstAlone);
         check.sentence("which is kept in place of those before: 1, or 0 if there is none", EdgeEvaluateTest::attempts);
         check.sentence("attempt: No such node: REFUSED", EdgeEvaluateTest::noSuchNodeToAttempt);
-        check.sentence("BOUND at most 64, LEVEL at most 8: evaluate gives them all", EdgeEvaluateTest::fullAtEveryLevel);
+        check.sentence("BOUND at most 64, LEVEL at most 8: all are given", EdgeEvaluateTest::fullAtEveryLevel);
         check.end();
     }
 
@@ -50,7 +50,7 @@ final class EdgeEvaluateTest {
         check.due("RUN in the empty text", build.evaluated(run), "");
     }
 
-    private static void inPlaceOfThoseBefore(Check check) {
+    private static void evaluates(Check check) {
         Build build = new Build("");
         int none = build.nothing();
         int one = build.set(2, build.number(-5));

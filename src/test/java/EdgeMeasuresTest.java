@@ -146,9 +146,11 @@ final class EdgeMeasuresTest {
 
     private static void workOfPairs(Check check) {
         for (int kind : PRODUCTS) {
-            limit(check, "kind " + kind + ", a heavy", build -> build.x.node(kind, build.heavy(1998), build.ofWork(1), 0),
+            limit(check, "kind " + kind + ", a heavy",
+                build -> build.x.node(kind, build.heavy(1998), build.ofWork(1), 0),
                 build -> build.x.node(kind, build.heavy(1999), build.ofWork(1), 0));
-            limit(check, "kind " + kind + ", b heavy", build -> build.x.node(kind, build.ofWork(1), build.heavy(1998), 0),
+            limit(check, "kind " + kind + ", b heavy",
+                build -> build.x.node(kind, build.ofWork(1), build.heavy(1998), 0),
                 build -> build.x.node(kind, build.ofWork(1), build.heavy(1999), 0));
             limit(check, "kind " + kind + ", a wide", build -> wide(build, kind, 6), build -> wide(build, kind, 7));
         }
@@ -227,8 +229,10 @@ final class EdgeMeasuresTest {
             }
             for (int kind = 9; kind <= 16; kind++) {
                 Build build = new Build("");
-                check.due("level of kind " + kind + ", a deep", build.x.level(node(build, kind, level, 1, 1)), level + 1);
-                check.due("level of kind " + kind + ", b deep", build.x.level(node(build, kind, 1, level, 1)), level + 1);
+                int left = node(build, kind, level, 1, 1);
+                int right = node(build, kind, 1, level, 1);
+                check.due("level of kind " + kind + ", a deep", build.x.level(left), level + 1);
+                check.due("level of kind " + kind + ", b deep", build.x.level(right), level + 1);
             }
             Build build = new Build("");
             check.due("level of IF, a deep", build.x.level(node(build, 19, level, 1, 1)), level + 1);

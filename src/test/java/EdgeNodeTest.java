@@ -220,7 +220,8 @@ final class EdgeNodeTest {
         GoalScanner x = numbersUpTo(3);
         int[][] twice = {{0, 0, 1}, {0, 1, 0}, {1, 0, 0}, {2, 2, 2}};
         for (int[] named : twice) {
-            check.refused("IF " + named[0] + ", " + named[1] + ", " + named[2], x.node(19, named[0], named[1], named[2]));
+            String call = "IF " + named[0] + ", " + named[1] + ", " + named[2];
+            check.refused(call, x.node(19, named[0], named[1], named[2]));
             check.due("used", x.used(0) || x.used(1) || x.used(2), false);
         }
         check.due("IF of three", x.node(19, 2, 0, 1), 3);

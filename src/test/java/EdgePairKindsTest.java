@@ -40,7 +40,8 @@ final class EdgePairKindsTest {
             // b has a RESULT in s, but none in the STATE behind the only character.
             int node = build.x.node(kind, build.one(Build.ALL), build.one(Build.ALL), 0);
             check.due("kind " + kind + " without y", build.evaluated(node), "");
-            check.due("kind " + kind + " with y of one x alone", build.evaluated(oneOfTwo(build, kind)), dueOneOfTwo(kind));
+            check.due("kind " + kind + " with y of one x alone", build.evaluated(oneOfTwo(build, kind)),
+                dueOneOfTwo(kind));
         }
     }
 

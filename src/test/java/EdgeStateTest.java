@@ -54,7 +54,8 @@ final class EdgeStateTest {
         for (int value : new int[] {MIN, MIN + 1, -1, 0, 1, MAX - 1, MAX}) {
             for (int v = 0; v <= 3; v++) {
                 Build build = new Build("");
-                check.due("evaluate", build.x.evaluate(build.then(build.set(v, build.number(value)), build.variable(v))), 1);
+                int read = build.then(build.set(v, build.number(value)), build.variable(v));
+                check.due("evaluate", build.x.evaluate(read), 1);
                 check.due("result(0)", build.x.result(0), value);
                 check.due("variable(0, " + v + ")", build.x.variable(0, v), value);
             }

@@ -101,7 +101,8 @@ final class EdgeTextTest {
                 check.due("count(1)", build.x.count(1), length);
             }
             check.due("type(0)", build.x.type(0), length + 1);
-            check.due("the RUN of a", build.evaluated(build.run(Build.just('a'))), length == 0 ? "" : length + "@" + length);
+            String run = length == 0 ? "" : length + "@" + length;
+            check.due("the RUN of a", build.evaluated(build.run(Build.just('a'))), run);
         }
     }
 
