@@ -150,6 +150,7 @@ final class EdgeEvaluateTest {
             }
             for (int node : new int[] {0, there - 1}) {
                 check.due("attempt(" + node + ")", build.x.attempt(node), there == 0 ? -1 : 1);
+                check.due("used(" + node + ") behind it", build.x.used(node), false);
                 check.due("result(0)", build.x.result(0), there == 0 ? GoalScanner.NONE : 1000 + node);
             }
             build.x.type('b');
