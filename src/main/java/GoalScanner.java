@@ -646,7 +646,7 @@ public final class GoalScanner {
             if (size >= limit) {
                 return;
             }
-            copy(from, size);
+            System.arraycopy(cells, from * WIDTH, cells, size * WIDTH, WIDTH);
             cells[size * WIDTH] = value;
             size++;
         }

@@ -151,6 +151,13 @@ final class Build {
         return then(go(number(place)), node);
     }
 
+    /** A node in the STATE with that place and the variables 11, 12, 13 and 14. */
+    int inState(int place, int node) {
+        int lower = then(set(0, number(11)), set(1, number(12)));
+        int upper = then(set(2, number(13)), set(3, number(14)));
+        return then(then(lower, upper), at(place, node));
+    }
+
     /** A node with just that BOUND, up to 64. */
     int ofBound(int bound) {
         if (bound == 1) {

@@ -1,3 +1,5 @@
+import java.util.function.ToLongFunction;
+
 /** "An object is used for at most 512 calls after it has been made; what later calls answer is free." */
 final class EdgeCallsTest {
     private static final int CALLS = 512;
@@ -11,6 +13,7 @@ final class EdgeCallsTest {
         check.sentence("at most 512 calls: evaluate and attempt", EdgeCallsTest::evaluating);
         check.sentence("at most 512 calls: those that only look", EdgeCallsTest::looking);
         check.sentence("at most 512 calls: refused ones", EdgeCallsTest::refusing);
+        check.sentence("at most 512 calls: all of the same kind", EdgeCallsTest::sameCall);
         check.sentence("what later calls answer is free", EdgeCallsTest::laterCalls);
         check.end();
     }
@@ -80,6 +83,38 @@ final class EdgeCallsTest {
         }
         check.due("type(0)", x.type(0), 1);
         check.due("node", x.node(4, 4, 0, 0), 0);
+    }
+
+    /** Up to the 512th call, which counts those that made the object ready. */
+    private static void repeated(Check check, String call, long due, ToLongFunction<GoalScanner> asked) {
+        Build build = new Build("ab");
+        build.x.evaluate(build.set(2, build.run(Build.ALL)));
+        for (int made = 2 + 2 + 1; made < CALLS; made++) {
+            check.due("call " + (made + 1) + ", " + call, asked.applyAsLong(build.x), due);
+        }
+    }
+
+    private static void sameCall(Check check) {
+        repeated(check, "type(256)", GoalScanner.REFUSED, x -> x.type(256));
+        repeated(check, "node of kind 22", GoalScanner.REFUSED, x -> x.node(22, 0, 0, 0));
+        repeated(check, "evaluate(1)", 1, x -> x.evaluate(1));
+        repeated(check, "attempt(1)", 1, x -> x.attempt(1));
+        repeated(check, "result(0)", 2, x -> x.result(0));
+        repeated(check, "place(0)", 2, x -> x.place(0));
+        repeated(check, "variable(0, 2)", 2, x -> x.variable(0, 2));
+        repeated(check, "bound(1)", 1, x -> x.bound(1));
+        repeated(check, "level(1)", 2, x -> x.level(1));
+        repeated(check, "used(0)", 1, x -> x.used(0) ? 1 : 0);
+        for (int what = 0; what <= 3; what++) {
+            int asked = what;
+            repeated(check, "count(" + what + ")", what <= 1 ? 2 : 1, x -> x.count(asked));
+        }
+        GoalScanner empty = new GoalScanner();
+        GoalScanner without = new GoalScanner();
+        for (int call = 1; call <= CALLS; call++) {
+            check.due("call " + call + ", wipe()", empty.wipe(), 0);
+            check.due("call " + call + ", clear()", without.clear(), 0);
+        }
     }
 
     /** They may answer anything, but none may throw or fail to end. */

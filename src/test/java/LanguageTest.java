@@ -1,8 +1,15 @@
 import java.io.IOException;
+import java.lang.reflect.Field;
+import java.lang.reflect.Modifier;
 import java.nio.file.Files;
 import java.nio.file.Path;
 import java.util.ArrayList;
+import java.util.HashSet;
 import java.util.List;
+import java.util.Map;
+import java.util.Set;
+import java.util.TreeMap;
+import java.util.TreeSet;
 import java.util.regex.Matcher;
 import java.util.regex.Pattern;
 import java.util.stream.Stream;
@@ -13,6 +20,8 @@ final class LanguageTest {
     private static final int MOST_LINES = 60;
     private static final int MOST_PARAMETERS = 7;
     private static final int MOST_CLASSES = 12;
+    private static final int MOST_FIELDS = 20;
+    private static final int MOST_CALLS_DEEP = 8;
     private static final Pattern METHOD = Pattern.compile("(?:[\\w\\[\\]]+ )+(\\w+)\\(([^()]*)\\) \\{");
 
     private final Check check = new Check();
@@ -33,6 +42,8 @@ final class LanguageTest {
         test.library();
         test.fields();
         test.methods();
+        test.callDepth();
+        test.fieldTypes();
         test.check.end();
     }
 
@@ -87,6 +98,53 @@ final class LanguageTest {
             check.due("rule 11, few lines of " + method.group(1), lines <= MOST_LINES, true);
         }
         check.due("the methods were found", found > 20, true);
+    }
+
+    /** Each method's longest way down through others, the library's too; one that is open already is recursion. */
+    private void callDepth() {
+        Map<String, Set<String>> calls = new TreeMap<>();
+        Matcher method = METHOD.matcher(code);
+        while (method.find()) {
+            Set<String> called = calls.computeIfAbsent(method.group(1), name -> new TreeSet<>());
+            Matcher call = Pattern.compile("\\b([a-z]\\w*)\\(").matcher(body(method.end()));
+            while (call.find()) {
+                called.add(call.group(1));
+            }
+        }
+        for (String name : calls.keySet()) {
+            int deep = deepest(name, calls, new HashSet<>());
+            check.due("rule 11, " + name + " with its " + deep + " calls one in the other is not too deep",
+                deep <= MOST_CALLS_DEEP, true);
+        }
+    }
+
+    private static int deepest(String name, Map<String, Set<String>> calls, Set<String> open) {
+        int below = 0;
+        open.add(name);
+        for (String called : calls.getOrDefault(name, Set.of())) {
+            if (!open.contains(called)) {
+                below = Math.max(below, deepest(called, calls, open));
+            }
+        }
+        open.remove(name);
+        return 1 + below;
+    }
+
+    private void fieldTypes() {
+        List<Class<?>> classes = new ArrayList<>(List.of(GoalScanner.class.getDeclaredClasses()));
+        classes.add(GoalScanner.class);
+        for (Class<?> each : classes) {
+            int held = 0;
+            for (Field field : each.getDeclaredFields()) {
+                Class<?> type = field.getType();
+                boolean plain = List.of(int.class, long.class, boolean.class, int[].class).contains(type);
+                boolean own = classes.contains(type.isArray() ? type.getComponentType() : type);
+                boolean isStatic = Modifier.isStatic(field.getModifiers());
+                held += isStatic ? 0 : 1;
+                check.due("rules 3 and 5, the type of " + field + " is fit", plain || own && !isStatic, true);
+            }
+            check.due("rule 11, few fields of " + each, held <= MOST_FIELDS, true);
+        }
     }
 
     /** The text from behind an opening brace up to the one that closes it. */
